@@ -99,6 +99,10 @@ public final class PromisesTest {
             x.divide(0, 0, 7, 0);
             value(x, 0, "0." + "1428571428".substring(0, held[i]));
         }
+        TwofoldAmounts long11 = new TwofoldAmounts(30, 11, 0);
+        long11.set(0, true, 0, 1, 0);
+        long11.divide(0, 0, 7, 0);
+        value(long11, 0, "0.1428571429");
         TwofoldAmounts away = new TwofoldAmounts(30, 5, -1);
         away.set(0, true, 0, -1, 9);
         value(away, 0, "-0.00001");
@@ -432,6 +436,11 @@ public final class PromisesTest {
             Checks.due("multiples stay", x.round(2, 2, 0, true), 0);
             value(x, 2, cash[c]);
         }
+        String[] odd = {"1.13", "7", "1.127", "1.1271"};
+        for (int c = 0; c < 4; c++) {
+            wide(x, 0, codes[c], odd[c]);
+            Checks.due("one unit of cash", x.round(0, 0, 7, true), 0);
+        }
         x = fresh();
         String[] fives = {"0.025", "0.075", "0.125", "0.175", "-0.025", "-0.075", "0.02501", "0.02499", "-0.075001"};
         String[] fivesEven = {"0", "0.1", "0.1", "0.2", "0", "-0.1", "0.05", "0", "-0.1"};
@@ -592,6 +601,9 @@ public final class PromisesTest {
                 Checks.due("compare " + numbers[i] + " " + numbers[j], x.compare(i, j), Integer.compare(i, j));
             }
         }
+        wide(x, 1, "CCC", "10000000000000000000000000");
+        wide(x, 2, "CCC", "20000000000000000000000000");
+        Checks.due("the highest digit", x.compare(1, 2), -1);
         x.set(0, false, 2, MIN, 5);
         x.set(1, false, 2, MAX, 5);
         Checks.due("fast", x.compare(0, 1), -1);
@@ -725,9 +737,9 @@ public final class PromisesTest {
         value(x, 0, "-99999999999999999999999999.5");
         wide(x, 0, "DDD", "-99999999999999999999999999.9999");
         format(x, 7, "(99,999,999,999,999,999,999,999,999.9999) DDD");
-        x.set(1, false, 0, MIN, 5);
-        x.round(1, 1, 1, false);
+        x = fresh();
         x.set(0, false, 0, MIN, 5);
+        x.set(1, false, 0, 7, 0);
         format(x, 1, "AAA -92,233,720,368,547.76");
         Checks.due("none held", x.format(7, 0), NO_AMOUNT);
         Checks.due("BAD first", x.format(7, 8), BAD);
