@@ -53,6 +53,7 @@ public final class TwofoldAmounts {
     private static final int SHIFT = WORK_PLACES - AMOUNT_PLACES;
     private static final int FAST_PLACES = 5;
     private static final int LONG_DIGITS = 19;
+    private static final long LEAST_LONG = 1L << 63;
 
     private static final int[] UNIT_DIGITS = {2, 0, 3, 4, 2, 1};
     private static final int[] CASH_UNITS = {1, 1, 1, 1, 5, 2};
@@ -690,7 +691,7 @@ public final class TwofoldAmounts {
                 return false;
             }
             long value = asLong(row, lowest, LONG_DIGITS);
-            return value >= 0 || negative && value == Long.MIN_VALUE;
+            return value >= 0 || negative && value == LEAST_LONG;
         }
     }
 

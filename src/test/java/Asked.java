@@ -26,10 +26,17 @@ final class Asked {
         return all.toString();
     }
 
+    /** Puts a number, of more digits than set can take, into a register by way of the text. */
+    static void put(TwofoldAmounts x, int r, boolean wide, String codeAndNumber) {
+        type(x, codeAndNumber);
+        Checks.due("parse " + codeAndNumber, x.parse(r, wide, 0), 0);
+        x.wipe();
+    }
+
     static void type(TwofoldAmounts x, String text) {
         x.wipe();
         for (int i = 0; i < text.length(); i++) {
-            x.type(text.charAt(i));
+            Checks.due("type of '" + text + "'", x.type(text.charAt(i)), i + 1);
         }
     }
 }
