@@ -31,6 +31,7 @@ public final class EdgesTest {
         allocateCounts();
         allocateWithoutARest();
         allocateTheUnitsThatAreLeft();
+        allocateByTheFirstRatiosAlone();
         allocateToEqualRemainders();
         allocateNothingToRatiosOf0();
         allocateLittle();
@@ -130,6 +131,11 @@ public final class EdgesTest {
             x.set(0, true, 0, 1, 0);
             x.divide(1, 0, 9, 0);
             Checks.due("scale " + given[i], Asked.value(x, 1), "0." + "1111111111".substring(0, held[i]));
+            TwofoldAmounts away = new TwofoldAmounts(19, given[i], 0);
+            away.set(0, true, 0, 1, 0);
+            away.divide(1, 0, 9, 0);
+            String due = "0." + "1111111111".substring(1, held[i]) + "2";
+            Checks.due("scale " + given[i], Asked.value(away, 1), due);
         }
     }
 
@@ -274,6 +280,7 @@ public final class EdgesTest {
         int[] above = {1, 0, 1, 0, 0, 0, 0};
         int[] below = {1, 0, 0, 1, 0, 0, 0};
         int[] half = {1, 0, 1, 0, 1, 0, 0};
+        int[] aboveHalf = {1, 0, 1, 0, 1, 1, 1};
         for (int c = 0; c < 6; c++) {
             for (int mode = 0; mode < 7; mode++) {
                 TwofoldAmounts x = fresh();
@@ -282,15 +289,27 @@ public final class EdgesTest {
                 for (int i = 0; i < digits[c]; i++) {
                     unit /= 10;
                 }
-                x.set(0, true, c, 1, 9);
-                Checks.due(call, x.round(1, 0, mode, false), 0);
-                Checks.due(call, x.sign(1) * x.digits(1, 0), above[mode] * unit);
-                x.negate(0, 0);
-                Checks.due(call, x.round(1, 0, mode, false), 0);
-                Checks.due(call, x.sign(1) * x.digits(1, 0), -below[mode] * unit);
+                for (int k = digits[c] + 1; k < 10; k++) {
+                    x.set(0, true, c, 1, k);
+                    Checks.due(call, x.round(1, 0, mode, false), 0);
+                    Checks.due(call, x.sign(1) * x.digits(1, 0), above[mode] * unit);
+                    x.negate(0, 0);
+                    Checks.due(call, x.round(1, 0, mode, false), 0);
+                    Checks.due(call, x.sign(1) * x.digits(1, 0), -below[mode] * unit);
+                }
                 x.set(0, false, c, 5, digits[c] + 1);
                 Checks.due(call, x.round(1, 0, mode, false), 0);
                 Checks.due(call, x.sign(1) * x.digits(1, 0), half[mode] * unit);
+                long five = 5;
+                for (int k = digits[c] + 2; k < 10; k++) {
+                    five *= 10;
+                    x.set(2, true, c, five + 1, k);
+                    Checks.due(call, x.round(1, 2, mode, false), 0);
+                    Checks.due(call, x.sign(1) * x.digits(1, 0), aboveHalf[mode] * unit);
+                    x.set(2, true, c, five - 1, k);
+                    Checks.due(call, x.round(1, 2, mode, false), 0);
+                    Checks.due(call, x.sign(1) * x.digits(1, 0), above[mode] * unit);
+                }
                 Checks.due(call, x.round(1, 0, 7, false), INEXACT);
             }
         }
@@ -425,6 +444,22 @@ public final class EdgesTest {
         x.set(0, false, 1, 1, 0);
         Checks.due("allocate", x.allocate(0, 1, 3), 0);
         values(x, 1, "0", "0", "1");
+    }
+
+    private static void allocateByTheFirstRatiosAlone() {
+        Checks.sentence("10: Splits a by the ratios 0 .. n - 1");
+        TwofoldAmounts x = fresh();
+        // 4 by 1 1 5 of 7: 0 0 2 and remainders 4 4 6: two are left
+        ratios(x, 1, 1, 5);
+        x.set(0, false, 1, 4, 0);
+        Checks.due("allocate by three", x.allocate(0, 1, 3), 0);
+        values(x, 1, "1", "0", "3");
+        // what the third had over before has no part in this
+        x.set(0, false, 1, 1, 0);
+        Checks.due("allocate by two", x.allocate(0, 1, 2), 0);
+        values(x, 1, "1", "0", "3");
+        Checks.due("allocate by one", x.allocate(0, 1, 1), 0);
+        values(x, 1, "1", "0", "3");
     }
 
     private static void allocateToEqualRemainders() {
@@ -563,6 +598,7 @@ public final class EdgesTest {
         }
         x.set(7, true, 2, 0, 9);
         Checks.due("0 and 0", x.compare(3, 7), 0);
+        compareByOneDigit();
         TwofoldAmounts y = fresh();
         long[] numbers = {MIN, MIN + 1, -1, 0, 1, MAX - 1, MAX};
         for (int i = 0; i < 7; i++) {
@@ -572,6 +608,20 @@ public final class EdgesTest {
             for (int b = 0; b < 7; b++) {
                 Checks.due("compare " + numbers[a] + " " + numbers[b], y.compare(a, b), Integer.compare(a, b));
             }
+        }
+    }
+
+    /** Two amounts that differ in one digit alone, at each place of the whole part. */
+    private static void compareByOneDigit() {
+        for (int zeros = 0; zeros < 26; zeros++) {
+            TwofoldAmounts x = fresh();
+            String rest = "00000000000000000000000000".substring(0, zeros);
+            Asked.put(x, 0, true, "CCC 1" + rest);
+            Asked.put(x, 1, true, "CCC 2" + rest);
+            Checks.due("compare 1" + rest + " 2" + rest, x.compare(0, 1), -1);
+            Checks.due("compare 2" + rest + " 1" + rest, x.compare(1, 0), 1);
+            Checks.due("subtract", x.subtract(2, 0, 1), 0);
+            value(x, 2, "-1" + rest);
         }
     }
 

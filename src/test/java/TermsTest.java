@@ -355,8 +355,13 @@ public final class TermsTest {
         Checks.due("1 by 2^6", x.divide(1, 0, 64, 0), RANGE);
         Checks.due("1 by 10^5", x.divide(1, 0, -100000, 0), 0);
         value(x, 1, "-0.00001");
-        Checks.due("1 by 10^6", x.divide(1, 0, 1000000, 0), RANGE);
-        Checks.due("1 by 10^18", x.divide(1, 0, 1000000000000000000L, 0), RANGE);
+        for (long ten = 1000000; ten > 0 && ten <= 1000000000000000000L; ten *= 10) {
+            Checks.due("1 by " + ten, x.divide(1, 0, ten, 0), RANGE);
+        }
+        x.set(0, false, 3, 1, 5);
+        for (long ten = 10; ten > 0 && ten <= 100000000000000000L; ten *= 10) {
+            Checks.due("0.00001 by " + ten, x.divide(1, 0, ten, 0), RANGE);
+        }
         value(x, 1, "-0.00001");
     }
 
@@ -652,6 +657,17 @@ public final class TermsTest {
         Checks.sentence("MODES: 0 away from 0; 1 towards 0; 2 up; 3 down: of the least that is no multiple");
         quotient(1, MAX, new int[] {1, 0, 1, 0, 0, 0, 0});
         quotient(1000000000, MAX, new int[] {2, 1, 2, 1, 1, 1, 1});
+        for (long ten = 100000000000L; ten <= 100000000000000000L; ten *= 10) {
+            quotient(1, ten, new int[] {1, 0, 1, 0, 0, 0, 0});
+        }
+        for (int mode = 0; mode < 7; mode++) {
+            TwofoldAmounts x = new TwofoldAmounts(30, 10, mode);
+            x.set(0, true, 0, 1, 9);
+            for (long ten = 100; ten <= 100000000000000000L; ten *= 10) {
+                Checks.due("divide", x.divide(1, 0, ten, 0), 0);
+                Checks.due("10^-9 by " + ten, x.digits(1, 0), mode == 0 || mode == 2 ? 1 : 0);
+            }
+        }
         for (int mode = 0; mode < 7; mode++) {
             TwofoldAmounts x = new TwofoldAmounts(30, 10, mode);
             x.set(0, true, 0, 1, 9);
